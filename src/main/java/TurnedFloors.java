@@ -913,29 +913,19 @@ public final class TurnedFloors {
         private final int[] stack = new int[DEPTH];
         private boolean broken = false;
 
-        int sumOf(Text text, int clause, int[] words) {
-            return valueOf(text, text.sumFrom[clause], text.testFrom[clause], words);
-        }
-
-        /** Whether the clause has no test, or one that is so and not BROKEN. */
-        boolean isSo(Text text, int clause, int[] words) {
-            if (text.testFrom[clause] >= text.testTo[clause]) {
-                return true;
-            }
-            int so = valueOf(text, text.testFrom[clause], text.testTo[clause], words);
-            return so == 1 && !broken;
-        }
-
-        private int valueOf(Text text, int from, int to, int[] words) {
+        /** What the sum or the test is: 0 if it is BROKEN, 1 for no code, so that a clause without a test is so. */
+        int valueOf(Text text, int from, int to, int[] words) {
             broken = false;
+            stack[0] = 1;
             int top = 0;
             int next = from;
             // Leaps go forward only, so there are never more steps than code.
             for (int step = from; step < to && next < to && !broken; step++) {
                 int op = text.code[next] & Text.OP_MASK;
                 int argument = text.code[next] >> Text.OP_BITS;
+                int taken = op <= Text.WORD ? 0 : op < Text.NOT ? 2 : 1;
                 next++;
-                if (top < needs(op) || top >= DEPTH || op == Text.WORD && argument >= words.length) {
+                if (top < taken || top >= DEPTH || op == Text.WORD && argument >= words.length) {
                     broken = true;
                 } else if (op == Text.NUMBER || op == Text.WORD) {
                     stack[top] = op == Text.NUMBER ? argument : words[argument];
@@ -951,14 +941,7 @@ public final class TurnedFloors {
                     stack[top - 1] = join(op, stack[top - 1], stack[top]);
                 }
             }
-            return top == 1 && !broken ? stack[0] : 0;
-        }
-
-        private static int needs(int op) {
-            if (op == Text.NUMBER || op == Text.WORD) {
-                return 0;
-            }
-            return op >= Text.NOT ? 1 : 2;
+            return broken ? 0 : stack[0];
         }
 
         private int join(int op, long left, long right) {
@@ -1061,7 +1044,7 @@ public final class TurnedFloors {
                 return false;
             }
             for (int i = 0; i < law.clauses; i++) {
-                if (law.kind[i] == kind && machine.isSo(law, i, words)) {
+                if (law.kind[i] == kind && machine.valueOf(law, law.testFrom[i], law.testTo[i], words) == 1) {
                     return true;
                 }
             }
@@ -1074,8 +1057,8 @@ public final class TurnedFloors {
             }
             // The last that HOLDS tells, so the first met from behind does.
             for (int i = law.clauses - 1; i >= 0; i--) {
-                if (law.kind[i] == PAYS && machine.isSo(law, i, words)) {
-                    int sum = machine.sumOf(law, i, words);
+                if (law.kind[i] == PAYS && machine.valueOf(law, law.testFrom[i], law.testTo[i], words) == 1) {
+                    int sum = machine.valueOf(law, law.sumFrom[i], law.testFrom[i], words);
                     if (!machine.broken) {
                         return Math.max(0, Math.min(DEAREST, sum));
                     }
@@ -1115,10 +1098,10 @@ public final class TurnedFloors {
             for (int clause = 0; clause < text.clauses; clause++) {
                 for (int i = 0; i < text.times[clause]; i++) {
                     setWords(tower);
-                    if (machine.isSo(text, clause, words)) {
+                    if (machine.valueOf(text, text.testFrom[clause], text.testTo[clause], words) == 1) {
                         long before = tower.pack();
                         int kind = text.kind[clause];
-                        int number = machine.sumOf(text, clause, words);
+                        int number = machine.valueOf(text, text.sumFrom[clause], text.testFrom[clause], words);
                         int answer = machine.broken ? CANNOT : tower.act(kind, number, judge);
                         if (answer < 0) {
                             tower.unpack(ahead);
@@ -1269,29 +1252,23 @@ public final class TurnedFloors {
             if (isSign('(')) {
                 if (openBracket()) {
                     readTest();
-                    closeBracket(')');
+                    open--;
+                    expectSign(')');
                 }
             } else {
-                readComparison();
+                readSum();
+                int op = signIn("<>=", Text.LESS);
+                if (faultAt != NONE || op == NONE) {
+                    fail();
+                    return;
+                }
+                step();
+                readSum();
+                text.emit(op, 0);
             }
             if (turned) {
                 text.emit(Text.NOT, 0);
             }
-        }
-
-        private void readComparison() {
-            readSum();
-            if (faultAt != NONE) {
-                return;
-            }
-            int op = signIn("<>=", Text.LESS);
-            if (op == NONE) {
-                fail();
-                return;
-            }
-            step();
-            readSum();
-            text.emit(op, 0);
         }
 
         private void readSum() {
@@ -1324,7 +1301,8 @@ public final class TurnedFloors {
             if (isSign('[')) {
                 if (openBracket()) {
                     readSum();
-                    closeBracket(']');
+                    open--;
+                    expectSign(']');
                 }
                 return;
             }
@@ -1363,11 +1341,6 @@ public final class TurnedFloors {
             open++;
             step();
             return true;
-        }
-
-        private void closeBracket(char sign) {
-            expectSign(sign);
-            open--;
         }
 
         private void expectSign(char sign) {
@@ -1472,7 +1445,7 @@ public final class TurnedFloors {
         private static final int BELOW_NONE = FLOORS;
         private static final int CASES = FLOORS * FLOORS * (FLOORS + 1) * 2;
         private static final int BUCKETS = DEAREST + 1;
-        private static final int FAR = Integer.MAX_VALUE;
+        private static final int FAR = 2_000_000_000;
         private static final int AIM_NOTHING = 0;
         private static final int AIM_ORDER = 1;
         private static final int AIM_TOP = 2;
@@ -1549,7 +1522,7 @@ public final class TurnedFloors {
             line[0] = start;
             int tail = 1;
             int sum = 0;
-            for (int next = 0; next < tail; next++) {
+            for (int next = 0; next < size && next < tail; next++) {
                 int tower = line[next];
                 if (toOrder[tower] == 0) {
                     sum = Math.min(MOST_ROWS, sum + marks[tower]);
@@ -1687,7 +1660,7 @@ public final class TurnedFloors {
             marks[start] = 0;
             line[0] = start;
             visited = 1;
-            for (int next = 0; next < visited; next++) {
+            for (int next = 0; next < size && next < visited; next++) {
                 int tower = line[next];
                 if (fits(tower, aim, value)) {
                     return marks[tower];
@@ -1724,7 +1697,7 @@ public final class TurnedFloors {
                 line[tail] = tower;
                 tail++;
             }
-            for (int next = 0; next < tail; next++) {
+            for (int next = 0; next < size && next < tail; next++) {
                 int tower = line[next];
                 for (int k = 1; k <= floors; k++) {
                     // A turn undoes itself, so this is the tower that the same turn brings here.
