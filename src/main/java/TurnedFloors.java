@@ -1517,7 +1517,7 @@ public final class TurnedFloors {
             if (toOrder[start] == NONE) {
                 return 0;
             }
-            Arrays.fill(marks, 0, size, 0);
+            Arrays.fill(marks, 0);
             marks[start] = 1;
             line[0] = start;
             int tail = 1;
@@ -1591,10 +1591,10 @@ public final class TurnedFloors {
             return nearest(AIM_ORDER, numberOfOrder());
         }
 
-        /** Towers wait in buckets by what was paid; no turn pays 0 .. 99 so much that a bucket mixes two sums. */
+        /** Towers wait in buckets by what was paid; as a turn pays 99 at most, no bucket ever holds two sums. */
         int leastPaid(Judge judge, int year) {
             askCases(judge, year, PAYS);
-            Arrays.fill(marks, 0, size, FAR);
+            Arrays.fill(marks, FAR);
             Arrays.fill(buckets, NONE);
             marks[start] = 0;
             putInBucket(start);
@@ -1656,7 +1656,7 @@ public final class TurnedFloors {
 
         /** The fewest turns from the start to a tower that fits; NONE, and all that can be come to visited, without. */
         private int nearest(int aim, int value) {
-            Arrays.fill(marks, 0, size, NONE);
+            Arrays.fill(marks, NONE);
             marks[start] = 0;
             line[0] = start;
             visited = 1;
@@ -1690,7 +1690,7 @@ public final class TurnedFloors {
             if (measuredFloors == floors && measuredHeads == headsMatter && sameBars()) {
                 return;
             }
-            Arrays.fill(toOrder, 0, size, NONE);
+            Arrays.fill(toOrder, NONE);
             int tail = 0;
             for (int tower = 0; tower < size && isOrdered(tower); tower++) {
                 toOrder[tower] = 0;

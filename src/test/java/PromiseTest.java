@@ -24,6 +24,7 @@ public final class PromiseTest {
         fewestTurns();
         cheapestTurns();
         worstAndReach();
+        searchesAfterChanges();
         gapsAndOrders();
         staying();
         guessing();
@@ -194,6 +195,7 @@ public final class PromiseTest {
         due("end(380)", x.end(380), 380);
         due("feed, 380 there", x.feed(0, 0, 0, 0, 0), 400);
         due("count(6)", x.count(6), 400);
+        due("end(400), all of them", x.end(400), 400);
         due("end(0)", x.end(0), 0);
         due("end(1)", x.end(1), -1);
         due("status()", x.status(), 0);
@@ -322,6 +324,11 @@ public final class PromiseTest {
         fault(false, "; pays 1", 0);
         fault(false, "Pays 1", 0);
         fault(false, "payss 1", 0);
+        fault(false, "paysz 1", 0);
+        fault(false, "pays 1zz", 6);
+        fault(false, "pays 1 }", 7);
+        fault(false, "pays 1 \u00ff", 7);
+        fault(false, "pays 1\u0000", 6);
         fault(false, "pays 1001", 5);
         fault(false, "pays 99999999999999999999", 5);
         fault(false, "pays -1", 5);
@@ -382,6 +389,9 @@ public final class PromiseTest {
         fault(false, "pays [[[[[[[[[1]]]]]]]]]", 13);
         due("8 brackets of both kinds", law(x, "bars if ((((([[[1]]]=1)))))"), 3);
         fault(false, "bars if (((((([[[1]]]=1))))))", 16);
+        due("9 brackets, one behind another", law(tower(0), "bars if (1=1)" + " and (1=1)".repeat(8)), 0);
+        due("9 brackets, one behind another", law(tower(0), "pays [1]" + "+[1]".repeat(8)), 0);
+        fault(false, "bars if (1=1) and ((((((((([1]=1)))))))))", 26);
         due("8 brackets, and then others", law(x, "bars if [[[[[[[[1]]]]]]]]=[[[[[[[[1]]]]]]]]"), 4);
         x.force(4);
         due("asks(1,1)", x.asks(1, 1), 1);
@@ -405,6 +415,7 @@ public final class PromiseTest {
         due("count(2)", x.count(2), 2);
         due("count(5)", x.count(5), 4);
         due("status()", x.status(), 0);
+        due("pass times 1", orders(tower(0), "pass times 1"), 1);
         due("pass times 20", orders(x, "pass times 20"), 20);
         due("count(13)", x.count(13), 21);
         due("count(5)", x.count(5), 16);
@@ -457,6 +468,8 @@ public final class PromiseTest {
         TurnedFloors x = tower(2, 0, 1);
         due("at, head", orders(x, "right 0 if at 0=2 and at 3=0-1 and head 3=0-1 and head 0=0"), 1);
         due("head", orders(x, "right 1 if head 0=1"), 1);
+        due("at, head of each place", orders(x, "right 1 if at 1=0 and at 2=1 and head 1=1 and head 2=0 times 1"), -6);
+        due("at, head of each place", orders(x, "right 1 times 2 if at 1=0 and at 2=1 and at 5=0-1 and head 2=0"), 2);
         due("done", orders(x, "pass times 20 if done < 3; right 2 if done = 3"), 4);
         due("latest", orders(x, "right 2 if latest=0-1; turn 3; right 0; right 0 if latest = 3"), 4);
         due("latest is of this text", orders(x, "right 0 if latest = 3"), 0);
@@ -478,9 +491,14 @@ public final class PromiseTest {
         stands("turn(3)", x, "4'31");
         due("count(2)", x.count(2), 5);
         due("turn(4)", x.turn(4), -3);
+        due("turn(6)", x.turn(6), -3);
         due("turn(0)", x.turn(0), -1);
         due("turn(7)", x.turn(7), -1);
         due("turn(-1)", x.turn(-1), -1);
+        TurnedFloors six = tower(0, 1, 2, 3, 4, 5);
+        due("turn(6) of six", six.turn(6), 6);
+        stands("turn(6)", six, "5'4'3'2'1'0'");
+        due("count(1)", six.count(1), 6);
         x.force(law(x, "pays 99; bars if head = 0 and top = 4"));
         due("turn(1)", x.turn(1), 99);
         due("turn(1) barred", x.turn(1), -3);
@@ -555,6 +573,17 @@ public final class PromiseTest {
         }
         due("undo(), 16 are kept", x.undo(), -3);
         due("count(13)", x.count(13), 1);
+        TurnedFloors y = tower(0, 1, 2);
+        for (int i = 0; i < 6; i++) {
+            orders(y, "turn 2; right 1; swap 0; pass");
+        }
+        for (int i = 0; i < 16; i++) {
+            due("undo() of 24, each kind", y.undo(), 3 - i % 4);
+        }
+        due("count(13)", y.count(13), 2);
+        due("count(2)", y.count(2), 4);
+        due("count(5)", y.count(5), 0);
+        stands("undo()", y, "012");
         x.pass();
         x.terms(1, 11);
         x.floor(2, 0);
@@ -666,6 +695,62 @@ public final class PromiseTest {
         x.force(law(x, "bars if grip > 1"));
         due("reach(), the top one alone", x.reach(), 2);
         due("reach() of nothing", new TurnedFloors().reach(), 1);
+    }
+
+    /** What is worked out on paper, each as the first call of its kind, and again behind every change. */
+    private static void searchesAfterChanges() {
+        promise = 20;
+        due("many() first", tower(1, 0).many(), 1);
+        due("cheapest() first", tower(1, 0).cheapest(), 2);
+        due("worst(1) first", tower(1, 0).worst(1), 4);
+        due("reach() first", tower(1, 0).reach(), 8);
+        due("comes(1) first", tower(1, 0).comes(1), 1);
+        due("view(0) first", tower(1, 0).view(0), 1);
+        due("compare(-1) first", tower(1, 0).compare(-1), 1);
+        due("fewest(0) first", tower(1, 0).fewest(0), 2);
+        TurnedFloors x = tower(1, 0);
+        due("fewest(-1)", x.fewest(-1), 1);
+        x.image(0);
+        x.floor(2, 0);
+        due("fewest(-1), one more floor", x.fewest(-1), 1);
+        due("worst(2)", x.worst(2), 48);
+        x.terms(3, 1);
+        due("fewest(-1), HEADS 1", x.fewest(-1), 3);
+        due("many()", x.many(), 1);
+        due("many() again", x.many(), 1);
+        x.force(law(x, "bars if grip = 1 and year = 3"));
+        due("fewest(-1), nothing barred yet", x.fewest(-1), 3);
+        x.terms(0, 3);
+        due("fewest(-1), barred by the year", x.fewest(-1), fewestByTwoAndThree());
+        x.terms(0, 4);
+        due("fewest(-1), the next year", x.fewest(-1), 3);
+        x.back(0);
+        due("fewest(-1), two floors again", x.fewest(-1), 1);
+        due("worst(2)", x.worst(2), 8);
+        due("comes(1)", x.comes(1), 1);
+    }
+
+    /** By hand: a tower of three as a text, turned by 2 and 3 alone, from 102 to 012, all upright. */
+    private static int fewestByTwoAndThree() {
+        java.util.List<String> line = new java.util.ArrayList<>(java.util.List.of("bac"));
+        java.util.List<Integer> far = new java.util.ArrayList<>(java.util.List.of(0));
+        for (int i = 0; i < line.size(); i++) {
+            if (line.get(i).equals("abc")) {
+                return far.get(i);
+            }
+            for (int k = 2; k <= 3; k++) {
+                StringBuilder b = new StringBuilder(line.get(i).substring(0, k)).reverse();
+                for (int j = 0; j < k; j++) {
+                    b.setCharAt(j, (char) (b.charAt(j) ^ 32));
+                }
+                String next = b + line.get(i).substring(k);
+                if (!line.contains(next)) {
+                    line.add(next);
+                    far.add(far.get(i) + 1);
+                }
+            }
+        }
+        return -1;
     }
 
     private static void gapsAndOrders() {
@@ -915,7 +1000,25 @@ public final class PromiseTest {
         due("bricks() stays", x.bricks(), 2);
         due("stopped() stays", x.stopped(), 1);
         due("fault() stays", x.fault(), 0);
+        x.forget();
+        x.seen(0, 0);
+        x.force(law(x, "pays 4; bars"));
         due("image(1)", x.image(1), 0);
+        x.back(0);
+        due("was(), seen of then", x.was(), 2);
+        due("law(): the number again", law(x, "pays 5"), 1);
+        x.force(1);
+        due("asks(1,0)", x.asks(1, 0), 5);
+        x.back(1);
+        due("asks(1,0), the law of image 1", x.asks(1, 0), 4);
+        due("asks(1,1), the law of image 1", x.asks(1, 1), 1);
+        due("was()", x.was(), 0);
+        x.force(0);
+        due("asks(1,0)", x.asks(1, 0), 7);
+        x.back(0);
+        x.forget();
+        due("was() behind forget()", x.was(), 6);
+        x.image(1);
         x.pass();
         x.image(0);
         x.back(1);
