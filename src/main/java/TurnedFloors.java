@@ -1436,9 +1436,9 @@ public final class TurnedFloors {
     }
 
     /**
-     * What is worked out on paper over all towers of the ranks there are. A tower is a number: its order's number
-     * with a bit for each place below it. The rising order is number 0, and orders that leave the lowest floors
-     * alone have the lowest numbers, so that one list of orders serves for any number of floors.
+     * What is worked out on paper over all towers of the ranks there are. A tower is a number: its order's number,
+     * and in the bits below that, which places are on their heads. The rising order is number 0, and orders that leave
+     * the lowest floors alone have the lowest numbers, so that one list of orders serves for any number of floors.
      */
     private static final class Paper {
         private static final int[] FACTORIALS = {1, 1, 2, 6, 24, 120, 720};

@@ -695,6 +695,42 @@ public final class PromiseTest {
         x.force(law(x, "bars if grip > 1"));
         due("reach(), the top one alone", x.reach(), 2);
         due("reach() of nothing", new TurnedFloors().reach(), 1);
+        for (int grip = 1; grip <= 6; grip++) {
+            for (int top = 0; top < 6; top++) {
+                for (int next = 0; next < 6; next++) {
+                    if (next != top) {
+                        reachByOneTurn(grip, top, next);
+                    }
+                }
+            }
+        }
+    }
+
+    /** Of all turns one is not barred: a law's answers for two turns must never be taken for one another. */
+    private static void reachByOneTurn(int grip, int top, int next) {
+        TurnedFloors x = new TurnedFloors();
+        x.floor(top, 0);
+        for (int rank = 0; rank < 6; rank++) {
+            if (x.count(0) == grip) {
+                x.floor(next, 0);
+            }
+            if (rank != next) {
+                x.floor(rank, 0);
+            }
+        }
+        x.floor(next, 0);
+        String below = grip == 6 ? "0-1" : "" + next;
+        x.force(law(x, "bars if not (grip=" + grip + " and top=" + top + " and head=0 and next=" + below + ")"));
+        due("reach() by " + grip + ", " + top + ", " + next, x.reach(), 2);
+        due("worst(2) by " + grip + ", " + top + ", " + next, x.worst(2), orderedByOneTurn(grip, top, next));
+    }
+
+    /** The 64 ordered towers, and those that the one turn brings to order: all but the grip has its place told. */
+    private static int orderedByOneTurn(int grip, int top, int next) {
+        // Behind the turn the top is the lowest that was gripped, so its rank is one less than the grip.
+        boolean orders = top == grip - 1 && (grip == 6 || next == grip);
+        // It was upright, and what it comes from is ordered itself, if one alone was gripped.
+        return orders && grip > 1 ? 64 + 32 : 64;
     }
 
     /** What is worked out on paper, each as the first call of its kind, and again behind every change. */
