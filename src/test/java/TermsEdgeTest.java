@@ -1106,5 +1106,17 @@ public final class TermsEdgeTest {
             last.to(y);
             y.pass();
         }, TurnedFloors::pass, -3);
+        x = Tried.led(last);
+        x.end(0);
+        x.pass();
+        Tried.due("orders() at 999 that ask the YEAR", Tried.orders(x, "pass times 20 if year<999"), 0);
+        Tried.due("undo() of the last YEAR", x.undo(), 3);
+        Tried.due("count(13)", x.count(13), 998);
+        Tried.due("orders() to the last YEAR", Tried.orders(x, "pass times 20 if year<999"), 1);
+        Tried.due("count(13)", x.count(13), 999);
+        Tried.due("turn(1) at 999", x.turn(1), 11);
+        Tried.due("terms(0, 0)", x.terms(0, 0), 999);
+        Tried.due("pass() in the first YEAR", x.pass(), 1);
+        Tried.due("count(13)", x.count(13), 1);
     }
 }
