@@ -1147,7 +1147,7 @@ public final class ModelTest {
                 case 38: {
                     List<Integer> row = m.firstRow();
                     same("fewest(-1)", x.fewest(-1), row == null ? -1 : row.size());
-                    for (int i = -2; i < 12; i++) {
+                    for (int i = -2; i < (row == null ? 2 : row.size() + 2); i++) {
                         if (i != -1) {
                             same("fewest(" + i + ")", x.fewest(i), row == null || i < 0 || i >= row.size() ? -1 : row.get(i));
                         }

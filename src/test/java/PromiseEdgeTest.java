@@ -695,7 +695,7 @@ public final class PromiseEdgeTest {
             x.floor(1, 1);
             x.terms(3, 1);
         }, TurnedFloors::many, 2);
-        // 1,000,000,000 rows can't be: six floors take 12 turns at most, and few of the six turns lead nearer.
+        // 1,000,000,000 at most: LongRowsTest, as it takes a law by which the rows are long.
     }
 
     private static void cheapest() {
