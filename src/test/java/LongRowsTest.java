@@ -19,6 +19,17 @@ public final class LongRowsTest {
         boolean on(int grip, int top, int next, int head);
     }
 
+    interface Pays {
+        int on(int grip, int top, int next, int head);
+    }
+
+    private static final Pays AS_GRIPPED = (grip, top, next, head) -> grip;
+
+    /** Most turns pay nothing by this law. */
+    private static final String SELDOM_PAYS_LAW = "pays [top-next-1]*head*7";
+
+    private static final Pays SELDOM_PAYS = (grip, top, next, head) -> Math.max(0, (top - next - 1) * head * 7);
+
     /** Found by search; the same law once as a text and once in Java. */
     private static final String UPRIGHT_LAW = "bars if [grip+head*9]%11<4; bars if [grip*6+next+head*5]%8=1;"
         + "bars if top=4 and next<5; bars if next=1 and head=0 and not top=2;"
@@ -122,7 +133,12 @@ public final class LongRowsTest {
             return bars.on(k, rank(name.charAt(0)), next, head(name.charAt(0)));
         }
 
-        int cheapest(String from) {
+        int pays(String name, int k, Pays law) {
+            int next = k < 6 ? rank(name.charAt(k)) : -1;
+            return law.on(k, rank(name.charAt(0)), next, head(name.charAt(0)));
+        }
+
+        int cheapest(String from, Pays law) {
             Map<String, Integer> paid = new HashMap<>();
             PriorityQueue<Map.Entry<String, Integer>> open = new PriorityQueue<>(Map.Entry.comparingByValue());
             open.add(Map.entry(from, 0));
@@ -136,7 +152,7 @@ public final class LongRowsTest {
                 }
                 for (int k = 1; k <= 6; k++) {
                     if (!barred(now.getKey(), k)) {
-                        open.add(Map.entry(turned(now.getKey(), k), now.getValue() + k));
+                        open.add(Map.entry(turned(now.getKey(), k), now.getValue() + pays(now.getKey(), k, law)));
                     }
                 }
             }
@@ -202,11 +218,18 @@ public final class LongRowsTest {
         for (String tower : List.of(most, farthest, never)) {
             TurnedFloors x = built(tower, law, towers.heads);
             int worst = towers.turns.get(farthest);
-            Tried.due("cheapest() of " + tower, x.cheapest(), towers.cheapest(tower));
+            Tried.due("cheapest() of " + tower, x.cheapest(), towers.cheapest(tower, AS_GRIPPED));
             Tried.due("worst(0)", x.worst(0), worst);
             Tried.due("worst(1)", x.worst(1), towers.turns.values().stream().filter(t -> t == worst).count());
             Tried.due("worst(2)", x.worst(2), towers.turns.size());
             Tried.due("reach() of " + tower, x.reach(), towers.reach(tower));
+        }
+
+        Tried.says("22: CHEAPEST, where most TURNS pay nothing, " + name);
+        for (int i = 0; i < towers.names.size(); i += 1777) {
+            String tower = towers.names.get(i);
+            TurnedFloors x = built(tower, law + ";" + SELDOM_PAYS_LAW, towers.heads);
+            Tried.due("cheapest() of " + tower, x.cheapest(), towers.cheapest(tower, SELDOM_PAYS));
         }
 
         Tried.says("22: what TURNS PAY together is not held to what PAID can be, " + name);

@@ -334,6 +334,20 @@ public final class PromiseEdgeTest {
         x = new TurnedFloors();
         Tried.law(x, "pays");
         Tried.due("law(): the number of one behind a FAULT", Tried.law(x, "pays 1"), 0);
+        Tried.says("10, 11: a long TEXT behind many long ones is read as the first");
+        String longSum = "1" + "+1".repeat(49);
+        String cutSum = "1" + "+1".repeat(48) + "+";
+        x = Tried.tower(0);
+        x.image(0);
+        for (int i = 0; i < 24; i++) {
+            Tried.due("law(), 50 PARTS", Tried.law(x, "pays " + longSum), 0);
+            x.force(0);
+            Tried.due("asks(1, 0)", x.asks(1, 0), 50);
+            Tried.due("orders(), 50 PARTS", Tried.orders(x, "turn " + longSum.replace("+1", "*1")), 1);
+            Tried.due("law(), it ends too early", Tried.law(x, "pays " + cutSum), -6);
+            Tried.due("fault()", x.fault(), 5 + cutSum.length());
+            x.back(0);
+        }
     }
 
     private static void orders() {
@@ -1302,6 +1316,28 @@ public final class PromiseEdgeTest {
         x.back(0);
         Tried.due("asks(1, 0), law 0", x.asks(1, 0), 10);
         Tried.due("force(1): there is none", x.force(1), -2);
+        Tried.says("IV: LAWS of then, each by its number");
+        for (int first = 0; first < 6; first++) {
+            x = Tried.tower(0);
+            lawsFrom(x, 0, first, 10);
+            x.image(0);
+            lawsFrom(x, first, 6, 20);
+            x.image(1);
+            x.back(0);
+            Tried.due("count(4) of then", x.count(4), first);
+            lawsFrom(x, first, 6, 30);
+            x.back(1);
+            for (int law = 0; law < 6; law++) {
+                x.force(law);
+                Tried.due("asks(1, 0) by law " + law + " of image 1", x.asks(1, 0), (law < first ? 10 : 20) + law);
+            }
+        }
+    }
+
+    private static void lawsFrom(TurnedFloors x, int first, int end, int pays) {
+        for (int law = first; law < end; law++) {
+            Tried.due("law()", Tried.law(x, "pays " + (pays + law)), law);
+        }
     }
 
     private static void notKept() {
