@@ -210,7 +210,7 @@ public final class TurnedFloors {
     }
 
     public int undo() {
-        if (history.kept == 0) {
+        if (history.kept <= 0) {
             return refuse(CANNOT);
         }
         history.kept--;
@@ -435,7 +435,9 @@ public final class TurnedFloors {
 
     private int refuse(int reason) {
         latestStatus = reason;
-        refusals[-reason]++;
+        if (reason < 0 && reason >= BAD_TEXT) {
+            refusals[-reason]++;
+        }
         return reason;
     }
 
@@ -570,7 +572,7 @@ public final class TurnedFloors {
                 rank[i] = (int) (rest >> 1 & 7);
                 rest = rest >> 4;
             }
-            floors = (int) rest;
+            floors = Math.min(FLOORS, (int) rest);
         }
 
         /** What the call of that kind answers: below 0 it was refused, and nothing has changed. */
@@ -919,8 +921,9 @@ public final class TurnedFloors {
             stack[0] = 1;
             int top = 0;
             int next = from;
+            int end = Math.min(to, text.code.length);
             // Leaps go forward only, so there are never more steps than code.
-            for (int step = from; step < to && next < to && !broken; step++) {
+            for (int step = from; step < end && next < end && !broken; step++) {
                 int op = text.code[next] & Text.OP_MASK;
                 int argument = text.code[next] >> Text.OP_BITS;
                 int taken = op <= Text.WORD ? 0 : op < Text.NOT ? 2 : 1;
@@ -1491,7 +1494,7 @@ public final class TurnedFloors {
                 digits[i] = i < floors ? indexOfRank(tower.rank[i]) : i;
                 headBits |= i < floors ? tower.head[i] << i : 0;
             }
-            start = numberOfOrder() << floors | headBits;
+            start = Math.min(size - 1, numberOfOrder() << floors | headBits);
             askCases(judge, tower.year, BARS);
         }
 
@@ -1530,7 +1533,7 @@ public final class TurnedFloors {
                 for (int k = 1; k <= floors; k++) {
                     if (isCloser(tower, k)) {
                         int other = turned(tower, k);
-                        if (marks[other] == 0) {
+                        if (marks[other] == 0 && tail < size) {
                             line[tail] = other;
                             tail++;
                         }
@@ -1667,7 +1670,7 @@ public final class TurnedFloors {
                 }
                 for (int k = 1; k <= floors; k++) {
                     int other = turned(tower, k);
-                    if (marks[other] == NONE && barred[caseOf(tower, k)] == 0) {
+                    if (marks[other] == NONE && barred[caseOf(tower, k)] == 0 && visited < size) {
                         marks[other] = marks[tower] + 1;
                         line[visited] = other;
                         visited++;
@@ -1702,7 +1705,7 @@ public final class TurnedFloors {
                 for (int k = 1; k <= floors; k++) {
                     // A turn undoes itself, so this is the tower that the same turn brings here.
                     int other = turned(tower, k);
-                    if (toOrder[other] == NONE && barred[caseOf(other, k)] == 0) {
+                    if (toOrder[other] == NONE && barred[caseOf(other, k)] == 0 && tail < size) {
                         toOrder[other] = toOrder[tower] + 1;
                         line[tail] = other;
                         tail++;
@@ -1748,7 +1751,9 @@ public final class TurnedFloors {
             }
             int heads = tower & (1 << floors) - 1;
             int order = turnedOrders[(tower >> floors) * FLOORS + k - 1];
-            return order << floors | turnedHeads[heads * FLOORS + k - 1];
+            int other = order << floors | turnedHeads[heads * FLOORS + k - 1];
+            // Every tower that is worked on is the start, is counted up to size, or came from here.
+            return other < size ? other : tower;
         }
 
         /** All that a law can be told of a turn, but what is the same for all towers, as one number. */
